@@ -61,6 +61,13 @@ public final class Promise02MakeTest {
         x.power(1);
         due.same("not LOCKED", x.count(7), 0);
 
+        x = Cards.chosen();
+        Cards.put(x, 5, 50);
+        due.same("WELL ahead of make", x.count(9), 1);
+        x.make(32, 4, 2, 1000);
+        due.same("WELL behind make", x.count(9), 0);
+        due.same("TICKS behind make", x.count(12), 0);
+
         x = Cards.inState(Cards.TAKING);
         Cards.give(x, 9);
         x.tick(1);

@@ -157,6 +157,7 @@ public final class Promise09EraseTest {
         x.tell(32, 2);
         x.power(0);
         Cards.toChosen(x);
+        due.same("no NOTES behind a CUT", x.count(8), 0);
         due.same("TO behind a CUT", x.tell(33, 3), -2);
         due.same("NOTES", x.count(8), 8);
     }

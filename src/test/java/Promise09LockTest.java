@@ -165,6 +165,10 @@ public final class Promise09LockTest {
         x.tick(1);
         x.power(0);
         due.same("TORN", x.count(11), 4);
+        BlockCard y = Cards.chosen(9, 4);
+        Cards.type(y, "k");
+        y.tell(42, 5);
+        due.same("force, the last GROUP has one", y.tell(42, 8), 3);
         x.power(1);
         due.same("not LOCKED", x.count(7), 0);
     }
