@@ -117,14 +117,14 @@ public final class BlockCard {
         if (isNoCommand(command, argument) || isOutside(check, 0, MAX_CHECK)) {
             return BAD;
         }
-        return receive(command, argument, check);
+        return hears(command, argument, check) ? obey(command, argument) : NONE;
     }
 
     public int tell(int command, int argument) {
         if (isNoCommand(command, argument)) {
             return BAD;
         }
-        return receive(command, argument, commandCheck(command, argument));
+        return hears(command, argument, commandCheck(command, argument)) ? obey(command, argument) : NONE;
     }
 
     public int give(int content, int check) {
@@ -182,17 +182,18 @@ public final class BlockCard {
     public int tune() {
         int answered = 0;
         for (int point = 0; point < POINTS; point++) {
-            int answer = receive(TUNE, point, commandCheck(TUNE, point));
-            if (answer == NONE) {
+            if (!hears(TUNE, point, commandCheck(TUNE, point))) {
                 return NONE;
             }
-            answered |= answer << point;
+            answered |= obey(TUNE, point) << point;
         }
         if (answered == 0) {
             return NO;
         }
         int middle = middleOfLongestRow(answered);
-        receive(TUNE, middle, commandCheck(TUNE, middle));
+        if (hears(TUNE, middle, commandCheck(TUNE, middle))) {
+            obey(TUNE, middle);
+        }
         return middle;
     }
 
@@ -411,23 +412,24 @@ public final class BlockCard {
         return NO;
     }
 
-    private int receive(int command, int argument, int check) {
+    /** Whether the COMMAND gets so far that it is done; if not, there is no answer to it. */
+    private boolean hears(int command, int argument, int check) {
         if (!isPowered()) {
-            return NONE;
+            return false;
         }
         if (check != commandCheck(command, argument)) {
             note(NOTE_CHECK);
-            return NONE;
+            return false;
         }
         if (!isOpenTo(command)) {
             note(NOTE_COMMAND);
-            return NONE;
+            return false;
         }
         if (eraser.isBrokenOffBy(command)) {
             eraser.forget();
             note(NOTE_ERASE);
         }
-        return obey(command, argument);
+        return true;
     }
 
     private boolean isOpenTo(int command) {
@@ -722,20 +724,20 @@ public final class BlockCard {
             }
             contents[place] = content;
             torn[place] = false;
-            removeWritten(place);
+            dropWritten(place, place + 1);
             addWrittenFirst(place);
         }
 
         void tear(int place) {
-            blank(place, true);
+            blank(place, 1, true);
         }
 
         void tearGroup(int group) {
-            blankGroup(group, true);
+            blank(group * groupSize, groupSize, true);
         }
 
         void eraseGroup(int group) {
-            blankGroup(group, false);
+            blank(group * groupSize, groupSize, false);
         }
 
         int tornBlocks() {
@@ -754,25 +756,19 @@ public final class BlockCard {
             return found;
         }
 
-        private void blankGroup(int group, boolean leftTorn) {
-            for (int i = 0; i < groupSize; i++) {
-                blank(group * groupSize + i, leftTorn);
+        private void blank(int first, int length, boolean leftTorn) {
+            int end = Math.min(first + length, size);
+            for (int i = Math.max(0, first); i < end; i++) {
+                contents[i] = EMPTY;
+                torn[i] = leftTorn;
             }
+            dropWritten(first, end);
         }
 
-        private void blank(int place, boolean leftTorn) {
-            if (!has(place)) {
-                return;
-            }
-            contents[place] = EMPTY;
-            torn[place] = leftTorn;
-            removeWritten(place);
-        }
-
-        private void removeWritten(int place) {
+        private void dropWritten(int first, int end) {
             int kept = 0;
             for (int i = 0; i < writtenCount && i < MAX_BLOCKS; i++) {
-                if (written[i] != place) {
+                if (written[i] < first || written[i] >= end) {
                     written[kept] = written[i];
                     kept++;
                 }

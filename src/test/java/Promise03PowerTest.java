@@ -110,11 +110,11 @@ public final class Promise03PowerTest {
         due.same("later(-1, 0) behind POWER ON", x.later(-1, 0), 0);
         Cards.toChosen(x);
         x.tell(21, 3);
-        x.tell(24, 8);
+        x.tell(24, 12);
         Cards.give(x, 82);
         due.same("no TICK is left over", x.later(0, 2), 0);
         x.power(0);
-        due.same("the second is not TORN by the first one's TICKS", x.count(11), 1);
+        due.same("a BLOCK without a TICK is not TORN by the TICKS of one ahead of the CUT", x.count(11), 1);
     }
 
     private static void cutWhileErasing() {
