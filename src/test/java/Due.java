@@ -1,12 +1,24 @@
+import java.util.HashMap;
+import java.util.Map;
+
 /** Holds answers against those that are due, and ends the run with 1 if one differed. */
 final class Due {
     private static final int SHOWN = 40;
+    // few of each sentence, so that every sentence that is broken is told
+    private static final int SHOWN_OF_EACH = 3;
     private final String title;
+    private final Map<String, Integer> misses = new HashMap<>();
+    private String sentence = "";
     private int wrong = 0;
     private int seen = 0;
 
     Due(String title) {
         this.title = title;
+    }
+
+    /** What comes behind this is a test of this sentence. */
+    void sentence(String words) {
+        sentence = words;
     }
 
     void same(String call, long got, long want) {
@@ -25,8 +37,9 @@ final class Due {
 
     private void miss(String line) {
         wrong++;
-        if (wrong <= SHOWN) {
-            System.out.println(title + ": " + line);
+        int here = misses.merge(sentence, 1, Integer::sum);
+        if (here <= (sentence.isEmpty() ? SHOWN : SHOWN_OF_EACH)) {
+            System.out.println(title + ": " + sentence + (sentence.isEmpty() ? "" : "\n    ") + line);
         }
     }
 

@@ -11,7 +11,7 @@ import java.util.regex.Pattern;
  * short ways in aid(). Without a "=" its answer is not looked at.
  */
 final class Run {
-    private static final int MOST_CALLS = 512;
+    private static final int MOST_CALLS = 512, MOST_BLOCKS = 64;
     private static final Pattern CALL = Pattern.compile("(\\w+)(?:\\(([^)]*)\\))?(?:\\s*=\\s*(.+))?");
     private static final Map<String, Integer> COMMANDS = Map.ofEntries(
         Map.entry("RESET", 0), Map.entry("WAKE", 1), Map.entry("NAME", 2), Map.entry("ADDRESS", 3),
@@ -29,15 +29,13 @@ final class Run {
         Map.entry("LEAST", Integer.MIN_VALUE), Map.entry("MOST", Integer.MAX_VALUE));
 
     private final Due due;
-    private final String sentence;
     private final BlockCard card = new BlockCard();
     private final StringBuilder told = new StringBuilder();
     private final List<String> answers = new ArrayList<>();
     private int calls = 0;
 
-    Run(Due due, String sentence) {
+    Run(Due due) {
         this.due = due;
-        this.sentence = sentence;
     }
 
     Run run(String script) {
@@ -46,9 +44,7 @@ final class Run {
                 step(part.trim());
             }
         }
-        if (calls > MOST_CALLS) {
-            throw new IllegalStateException("more calls than are promised: " + sentence);
-        }
+        due.same(told + "\n    calls beyond those that are promised:", Math.max(0, calls - MOST_CALLS), 0);
         return this;
     }
 
@@ -71,27 +67,32 @@ final class Run {
         }
         String name = m.group(1);
         String inside = m.group(2);
+        if (inside == null && !COUNTS.contains(name)) {
+            throw new IllegalStateException("no word of COUNTS: " + step);
+        }
         told.append(told.length() == 0 ? "" : "; ").append(step);
         if (inside != null && aid(name, inside)) {
             return;
         }
-        int got = inside == null ? count(COUNTS.indexOf(name)) : call(name, numbers(inside));
+        int got = inside == null ? call("count", new int[] {COUNTS.indexOf(name)}) : call(name, numbers(inside));
         answers.add(step + " -> " + got);
         if (m.group(3) != null) {
-            due.same(sentence + "\n    " + told + "\n    the last", got, sum(m.group(3)));
+            due.same(told + "\n    the last", got, sum(m.group(3)));
         }
     }
 
-    private int count(int what) {
-        if (what < 0) {
-            throw new IllegalStateException("no word of COUNTS: " + told);
-        }
-        calls++;
-        return card.count(what);
-    }
-
+    /** No call may throw: one that does is a miss, and the run goes on. */
     private int call(String name, int[] a) {
         calls++;
+        try {
+            return answer(name, a);
+        } catch (IndexOutOfBoundsException | ArithmeticException | NullPointerException e) {
+            due.same(told + "\n    the last threw", e.toString(), "an answer");
+            return Integer.MIN_VALUE;
+        }
+    }
+
+    private int answer(String name, int[] a) {
         Integer command = COMMANDS.get(name);
         if (command != null) {
             return card.tell(command, a[0]);
@@ -141,12 +142,12 @@ final class Run {
     private void row(String what, String got, String want) {
         answers.add(what + " -> " + got);
         if (!want.equals("?")) {
-            due.same(sentence + "\n    " + told + "\n    " + what, got, want);
+            due.same(told + "\n    " + what, got, want);
         }
     }
 
     private void wake() {
-        for (int i = 0; i < 10 && count(2) == 0; i++) {
+        for (int i = 0; i < 10 && call("count", new int[] {2}) == 0; i++) {
             run("WAKE(0)");
         }
     }
@@ -177,8 +178,8 @@ final class Run {
 
     private String latest() {
         List<String> all = new ArrayList<>();
-        for (int b = call("latest", new int[] {0}); b >= 0; b = call("latest", new int[] {all.size()})) {
-            all.add("" + b);
+        for (int i = 0; i <= MOST_BLOCKS && call("latest", new int[] {i}) >= 0; i++) {
+            all.add("" + call("latest", new int[] {i}));
         }
         return String.join(", ", all);
     }
@@ -195,7 +196,7 @@ final class Run {
     }
 
     private String blocks(int what) {
-        int blocks = count(0);
+        int blocks = call("count", new int[] {0});
         List<String> all = new ArrayList<>();
         for (int b = 0; b < blocks; b++) {
             int answer = call("block", new int[] {b, what});

@@ -224,6 +224,7 @@ final class SentencesOfContents {
             "give(-1, 0) = BAD", "give(0, 128) = BAD", "give(0, -1) = BAD", "tick(0) = BAD", "tick(401) = BAD", "tick(-1) = BAD",
             "block(8, 0) = BAD", "block(0, 3) = BAD", "latest(-1) = BAD", "latest(64) = NONE", "word(-2) = BAD", "word(8) = NONE",
             "later(-2, 0) = BAD", "later(0, 3) = BAD", "later(2, 0) = NONE", "count(19) = BAD", "count(-1) = BAD"};
+        told.changesNothing("make(8, 3, 0, 7); warm(9);" + "write(97);".repeat(200), "write(97) = FULL");
         for (String way : ways) {
             for (String call : refused) {
                 told.changesNothing(way, call);

@@ -291,6 +291,8 @@ final class SentencesOfPromises {
             told.small().run("put(5, 1); latest(" + i + ") = " + (i.equals("MOST") ? "NONE" : "BAD"));
         }
         told.small().run("latest(0) = NONE; put(5, 1); latest(0) = 5; latest(1) = NONE; latest(63) = NONE; latest(64) = NONE");
+        told.card().run("make(64, 8, 0, 0); toChosen(); SWITCH(2); TAKE_MANY(0)").times(64, "fits(1); tick(1)")
+            .run("latest(63) = 0; latest(64) = NONE; latest(MOST) = NONE; latest(-1) = BAD");
         told.sentence("Promise 17", "The i-th letter of the WORD, as in ASCII; how many it has (i = -1; 0: none).");
         told.small().run("word(-1) = 0; type(~ A); LOCK(1); word(-1) = 3; word(0) = 126; word(1) = 32; word(2) = 65; power(0); word(-1) = 3;"
             + "word(2) = 65");

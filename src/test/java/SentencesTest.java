@@ -12,6 +12,9 @@ public final class SentencesTest {
         new SentencesOfTheLock(told).all();
         new SentencesOfContents(told).all();
         new SentencesOfPromises(told).all();
+        if (args.length > 0) {
+            told.names();
+        }
         told.end();
     }
 }

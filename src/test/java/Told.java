@@ -1,5 +1,7 @@
 import java.io.IOException;
+import java.util.LinkedHashSet;
 import java.util.List;
+import java.util.Set;
 
 /** Tests of the document sentence by sentence: each names its promise and the words that it holds to. */
 final class Told {
@@ -26,7 +28,7 @@ final class Told {
 
     private final Due due = new Due("Sentence by sentence");
     private final Document document;
-    private String sentence = "";
+    private final Set<String> names = new LinkedHashSet<>();
 
     Told() throws IOException {
         document = new Document();
@@ -34,8 +36,10 @@ final class Told {
 
     /** What comes behind this is a test of these words, as they stand in the promise or above the promises. */
     void sentence(String promise, String words) {
-        sentence = promise + ": \"" + words + "\"";
-        due.same(sentence + " stands in the document", document.name(promise, words) ? 1 : 0, 1);
+        String name = promise + ": \"" + words + "\"";
+        names.add(name);
+        due.sentence(name);
+        due.same("it stands in the document:", document.name(promise, words) ? 1 : 0, 1);
     }
 
     /** Words from the first to the last of these that ask for nothing, so no test names them. */
@@ -45,7 +49,7 @@ final class Told {
 
     /** A new card without power. */
     Run card() {
-        return new Run(due, sentence);
+        return new Run(due);
     }
 
     /** A card of eight BLOCKS by three, CHOSEN, with POINT 3. */
@@ -77,7 +81,7 @@ final class Told {
     }
 
     void same(String what, long got, long want) {
-        due.same(sentence + "\n    " + what, got, want);
+        due.same(what, got, want);
     }
 
     /** Behind the way, the call has its answer and no way on tells that it was there. */
@@ -91,14 +95,19 @@ final class Told {
             String[] seen = with.answers().toArray(new String[0]);
             int steps = (int) on.chars().filter(c -> c == ';').count() + 1;
             for (int i = 1; i <= Math.min(steps, asDue.length); i++) {
-                due.same(sentence + "\n    " + way + "; " + call + "; " + on + "\n    changed by " + call,
+                due.same(way + "; " + call + "; " + on + "\n    changed by " + call,
                     seen[seen.length - i], asDue[asDue.length - i]);
             }
         }
     }
 
+    /** Every sentence that has a test, a line each. */
+    void names() {
+        names.forEach(System.out::println);
+    }
+
     void end() {
-        sentence = "";
+        due.sentence("");
         for (String words : document.unnamed()) {
             due.same("named by no test: " + words, 0, 1);
         }
